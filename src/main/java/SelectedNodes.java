@@ -1,3 +1,5 @@
+import java.util.ArrayList;
+
 /** A document of nested values, and queries that pick nodes out of it. ../shared/DOC.md says what is promised. */
 public final class SelectedNodes {
     public static final int NONE = -1;
@@ -81,9 +83,9 @@ public final class SelectedNodes {
         }
         page.setLength(0);
         if (what == 0) {
-            node.writePath(page, 1);
+            node.writePath(page);
         } else {
-            node.writeValue(page, 1);
+            node.writeValue(page);
         }
         return page.length();
     }
@@ -103,7 +105,8 @@ public final class SelectedNodes {
     private static final class Text {
         static final int LIMIT = 120;
         static final char END = 0;
-        static final int NO_PLACE = Integer.MIN_VALUE;
+        // No place has so many digits.
+        static final int NO_PLACE = -1000;
         static final String ESCAPE_LETTERS = "bfnrt";
         static final String ESCAPED_CODES = "\b\f\n\r\t";
 
@@ -164,10 +167,6 @@ public final class SelectedNodes {
             while (place < size && peek() == ' ') {
                 place++;
             }
-        }
-
-        boolean startsPlace() {
-            return peek() == '-' || isDigit(peek());
         }
 
         /** A letter or _ and any letters, digits and _ ; null when there is none. */
@@ -249,6 +248,10 @@ public final class SelectedNodes {
             return number;
         }
 
+        boolean startsPlace() {
+            return peek() == '-' || isDigit(peek());
+        }
+
         /** A place; NO_PLACE at a fault. */
         int takePlace() {
             boolean minus = take('-');
@@ -317,20 +320,21 @@ public final class SelectedNodes {
         static final int DEEPEST = 6;
 
         final int kind;
+        final ArrayList<Node> children;
         long thousandths;
         String characters;
         Node parent;
         String name;
         int place;
-        int size;
-        Node first;
-        Node last;
-        Node next;
 
         Node(int kind) {
             this.kind = kind;
+            this.children = new ArrayList<>();
+            this.thousandths = 0;
             this.characters = "";
+            this.parent = null;
             this.name = "";
+            this.place = 0;
         }
 
         /** A string of these characters; null when there are none to be had (null). */
@@ -345,14 +349,8 @@ public final class SelectedNodes {
 
         void add(Node child) {
             child.parent = this;
-            child.place = size;
-            if (last == null) {
-                first = child;
-            } else {
-                last.next = child;
-            }
-            last = child;
-            size++;
+            child.place = children.size();
+            children.add(child);
         }
 
         /** The member of that name; null when there is none. */
@@ -360,9 +358,9 @@ public final class SelectedNodes {
             if (kind != OBJECT) {
                 return null;
             }
-            for (Node child = first; child != null; child = child.next) {
-                if (child.name.equals(wanted)) {
-                    return child;
+            for (int k = 0; k < children.size(); k++) {
+                if (children.get(k).name.equals(wanted)) {
+                    return children.get(k);
                 }
             }
             return null;
@@ -370,28 +368,7 @@ public final class SelectedNodes {
 
         /** Item k of an array; null when there is none. */
         Node item(int k) {
-            if (kind != ARRAY || k < 0) {
-                return null;
-            }
-            for (Node child = first; child != null; child = child.next) {
-                if (child.place == k) {
-                    return child;
-                }
-            }
-            return null;
-        }
-
-        /** The next of the nodes below top, in their order; null when this is the last of them. */
-        Node following(Node top) {
-            if (first != null) {
-                return first;
-            }
-            for (Node node = this; node != null && node != top; node = node.parent) {
-                if (node.next != null) {
-                    return node.next;
-                }
-            }
-            return null;
+            return kind == ARRAY && k >= 0 && k < children.size() ? children.get(k) : null;
         }
 
         void setCount(int count) {
@@ -403,15 +380,16 @@ public final class SelectedNodes {
             if (kind == STRING) {
                 return characters.length();
             }
-            return kind == ARRAY || kind == OBJECT ? size : -1;
+            return kind == ARRAY || kind == OBJECT ? children.size() : -1;
         }
 
         /** Whether the two, either of which may be nothing (null), are equal. */
-        static boolean same(Node a, Node b, int depth) {
-            if (a == null || b == null) {
-                return a == b;
-            }
-            if (a.kind != b.kind || a.size != b.size || depth > DEEPEST) {
+        static boolean equal(Node a, Node b) {
+            return a == null || b == null ? a == b : same(a, b, 1);
+        }
+
+        private static boolean same(Node a, Node b, int depth) {
+            if (a.kind != b.kind || a.children.size() != b.children.size() || depth > DEEPEST) {
                 return false;
             }
             if (a.kind == NUMBER) {
@@ -420,17 +398,17 @@ public final class SelectedNodes {
             if (a.kind == STRING) {
                 return a.characters.equals(b.characters);
             }
-            Node twin = b.first;
-            for (Node child = a.first; child != null && twin != null; child = child.next) {
-                Node other = a.kind == OBJECT ? b.member(child.name) : twin;
+            for (int k = 0; k < a.children.size(); k++) {
+                Node child = a.children.get(k);
+                Node other = a.kind == ARRAY ? b.item(k) : b.member(child.name);
                 if (other == null || !same(child, other, depth + 1)) {
                     return false;
                 }
-                twin = twin.next;
             }
             return true;
         }
 
+        /** Whether the first of the two, either of which may be nothing (null), is less. */
         static boolean less(Node a, Node b) {
             if (a == null || b == null || a.kind != b.kind) {
                 return false;
@@ -441,7 +419,7 @@ public final class SelectedNodes {
             return a.kind == STRING && comesBefore(a.characters, b.characters);
         }
 
-        static boolean comesBefore(String a, String b) {
+        private static boolean comesBefore(String a, String b) {
             int common = Math.min(a.length(), b.length());
             for (int k = 0; k < common; k++) {
                 if (a.charAt(k) != b.charAt(k)) {
@@ -451,12 +429,16 @@ public final class SelectedNodes {
             return a.length() < b.length();
         }
 
-        void writePath(StringBuilder page, int depth) {
+        void writePath(StringBuilder page) {
+            writeSteps(page, 1);
+        }
+
+        private void writeSteps(StringBuilder page, int depth) {
             if (parent == null || depth > DEEPEST) {
                 page.append('$');
                 return;
             }
-            parent.writePath(page, depth + 1);
+            parent.writeSteps(page, depth + 1);
             page.append('[');
             if (parent.kind == OBJECT) {
                 writeString(page, name, '\'');
@@ -466,10 +448,11 @@ public final class SelectedNodes {
             page.append(']');
         }
 
-        void writeValue(StringBuilder page, int depth) {
-            if (depth > DEEPEST) {
-                return;
-            }
+        void writeValue(StringBuilder page) {
+            writeAt(page, 1);
+        }
+
+        private void writeAt(StringBuilder page, int depth) {
             switch (kind) {
                 case NULL:
                     page.append("null");
@@ -492,27 +475,27 @@ public final class SelectedNodes {
             }
         }
 
-        void writeChildren(StringBuilder page, int depth) {
+        private void writeChildren(StringBuilder page, int depth) {
             page.append(kind == ARRAY ? '[' : '{');
-            for (Node child = first; child != null; child = child.next) {
-                if (child.place > 0) {
+            for (int k = 0; k < children.size() && depth < DEEPEST; k++) {
+                Node child = children.get(k);
+                if (k > 0) {
                     page.append(',');
                 }
                 if (kind == OBJECT) {
                     writeString(page, child.name, '"');
                     page.append(':');
                 }
-                child.writeValue(page, depth + 1);
+                child.writeAt(page, depth + 1);
             }
             page.append(kind == ARRAY ? ']' : '}');
         }
 
-        static void writeNumber(StringBuilder page, long thousandths) {
-            long size = thousandths;
-            if (size < 0) {
+        private static void writeNumber(StringBuilder page, long thousandths) {
+            if (thousandths < 0) {
                 page.append('-');
-                size = -size;
             }
+            long size = Math.abs(thousandths);
             page.append((int) (size / 1000));
             int rest = (int) (size % 1000);
             if (rest != 0) {
@@ -524,7 +507,7 @@ public final class SelectedNodes {
             }
         }
 
-        static void writeString(StringBuilder page, String characters, char quote) {
+        private static void writeString(StringBuilder page, String characters, char quote) {
             page.append(quote);
             for (int k = 0; k < characters.length(); k++) {
                 char c = characters.charAt(k);
@@ -562,7 +545,7 @@ public final class SelectedNodes {
             return text.atEnd() ? whole : null;
         }
 
-        Node readValue(int depth) {
+        private Node readValue(int depth) {
             if (depth > Node.DEEPEST) {
                 return null;
             }
@@ -576,7 +559,7 @@ public final class SelectedNodes {
             return text.takeScalar(false);
         }
 
-        Node readChildren(int kind, char close, int depth) {
+        private Node readChildren(int kind, char close, int depth) {
             Node node = new Node(kind);
             text.skipSpaces();
             if (text.take(close)) {
@@ -600,7 +583,7 @@ public final class SelectedNodes {
             return null;
         }
 
-        Node readMember(Node object, int depth) {
+        private Node readMember(Node object, int depth) {
             // Where the value would lie too deep, already its name can't stand.
             if (depth > Node.DEEPEST || !text.take('"')) {
                 return null;
@@ -626,22 +609,17 @@ public final class SelectedNodes {
     /** A query: where it starts, and its segments. */
     private static final class Query {
         final boolean fromWhole;
+        final ArrayList<Segment> segments;
         boolean single;
-        Segment first;
-        Segment last;
 
         Query(boolean fromWhole) {
             this.fromWhole = fromWhole;
+            this.segments = new ArrayList<>();
             this.single = true;
         }
 
         void add(Segment segment) {
-            if (last == null) {
-                first = segment;
-            } else {
-                last.next = segment;
-            }
-            last = segment;
+            segments.add(segment);
             single = single && segment.isSingle();
         }
     }
@@ -649,29 +627,19 @@ public final class SelectedNodes {
     /** A segment: its selectors, and whether it goes deep down. */
     private static final class Segment {
         final boolean deep;
-        Selector first;
-        Selector last;
-        Segment next;
+        final ArrayList<Selector> selectors;
 
         Segment(boolean deep) {
             this.deep = deep;
-        }
-
-        void add(Selector selector) {
-            if (last == null) {
-                first = selector;
-            } else {
-                last.next = selector;
-            }
-            last = selector;
+            this.selectors = new ArrayList<>();
         }
 
         boolean isSingle() {
-            return !deep && first != null && first == last && first.isSingle();
+            return !deep && selectors.size() == 1 && selectors.get(0).isSingle();
         }
     }
 
-    /** A selector; which of its parts count is told by its sort. */
+    /** A selector; which of its fields count is told by its sort. */
     private static final class Selector {
         static final int ALL = 0;
         static final int NAME = 1;
@@ -685,7 +653,6 @@ public final class SelectedNodes {
         int to;
         int step;
         Condition condition;
-        Selector next;
 
         Selector(int sort) {
             this.sort = sort;
@@ -693,6 +660,7 @@ public final class SelectedNodes {
             this.from = Text.NO_PLACE;
             this.to = Text.NO_PLACE;
             this.step = 1;
+            this.condition = null;
         }
 
         static Selector named(String name) {
@@ -723,9 +691,7 @@ public final class SelectedNodes {
         static final int MORE_OR_EQUAL = 6;
 
         final int sort;
-        Condition first;
-        Condition last;
-        Condition next;
+        final ArrayList<Condition> parts;
         Query test;
         Operand left;
         Operand right;
@@ -733,16 +699,17 @@ public final class SelectedNodes {
 
         Condition(int sort) {
             this.sort = sort;
+            this.parts = new ArrayList<>();
+            this.test = null;
+            this.left = null;
+            this.right = null;
             this.sign = NO_SIGN;
         }
 
-        void add(Condition part) {
-            if (last == null) {
-                first = part;
-            } else {
-                last.next = part;
-            }
-            last = part;
+        static Condition ofTest(Query query) {
+            Condition condition = new Condition(TEST);
+            condition.test = query;
+            return condition;
         }
     }
 
@@ -787,19 +754,16 @@ public final class SelectedNodes {
                 return null;
             }
             Query query = readTest(0, false);
-            return query != null && text.atEnd() ? query : null;
+            return text.atEnd() ? query : null;
         }
 
-        Query readTest(int depth, boolean onlySingle) {
+        private Query readTest(int depth, boolean onlySingle) {
             boolean fromWhole = text.take('$');
             if (!fromWhole && !text.take('@')) {
                 return null;
             }
             Query query = new Query(fromWhole);
-            for (int k = 0; k < Text.LIMIT; k++) {
-                if (text.peek() != '.' && text.peek() != '[') {
-                    return query;
-                }
+            for (int k = 0; k < Text.LIMIT && (text.peek() == '.' || text.peek() == '['); k++) {
                 Segment segment = readSegment(depth, onlySingle);
                 if (segment == null) {
                     return null;
@@ -809,32 +773,33 @@ public final class SelectedNodes {
             return query;
         }
 
-        Segment readSegment(int depth, boolean onlySingle) {
+        private Segment readSegment(int depth, boolean onlySingle) {
             boolean dot = text.take('.');
             boolean deep = dot && !onlySingle && text.take('.');
+            boolean bracket = (deep || !dot) && text.take('[');
             Segment segment = new Segment(deep);
-            if (dot == deep && text.take('[')) {
+            if (bracket) {
                 return readSelectors(segment, depth, onlySingle) ? segment : null;
             }
             if (!onlySingle && text.take('*')) {
-                segment.add(new Selector(Selector.ALL));
+                segment.selectors.add(new Selector(Selector.ALL));
                 return segment;
             }
             String word = text.takeWord();
             if (word == null) {
                 return null;
             }
-            segment.add(Selector.named(word));
+            segment.selectors.add(Selector.named(word));
             return segment;
         }
 
-        boolean readSelectors(Segment segment, int depth, boolean onlySingle) {
+        private boolean readSelectors(Segment segment, int depth, boolean onlySingle) {
             for (int k = 0; k < Text.LIMIT; k++) {
                 Selector selector = readSelector(depth, onlySingle);
                 if (selector == null) {
                     return false;
                 }
-                segment.add(selector);
+                segment.selectors.add(selector);
                 if (onlySingle || !text.take(',')) {
                     return text.take(']');
                 }
@@ -842,7 +807,7 @@ public final class SelectedNodes {
             return false;
         }
 
-        Selector readSelector(int depth, boolean onlySingle) {
+        private Selector readSelector(int depth, boolean onlySingle) {
             char c = text.peek();
             if (c == '\'' || c == '"') {
                 String name = text.takeString(c);
@@ -854,20 +819,13 @@ public final class SelectedNodes {
             if (onlySingle) {
                 return null;
             }
-            switch (c) {
-                case '*':
-                    text.take(c);
-                    return new Selector(Selector.ALL);
-                case '?':
-                    return readFilter(depth);
-                case ':':
-                    return readSlice(Text.NO_PLACE);
-                default:
-                    return null;
+            if (c == '?') {
+                return readFilter(depth);
             }
+            return text.take('*') ? new Selector(Selector.ALL) : readSlice(Text.NO_PLACE);
         }
 
-        Selector readFilter(int depth) {
+        private Selector readFilter(int depth) {
             if (depth >= DEEPEST || !text.take('?')) {
                 return null;
             }
@@ -876,7 +834,7 @@ public final class SelectedNodes {
             return filter.condition == null ? null : filter;
         }
 
-        Selector readPlaceOrSlice(boolean onlySingle) {
+        private Selector readPlaceOrSlice(boolean onlySingle) {
             int place = text.takePlace();
             if (place == Text.NO_PLACE) {
                 return null;
@@ -889,7 +847,7 @@ public final class SelectedNodes {
             return selector;
         }
 
-        Selector readSlice(int from) {
+        private Selector readSlice(int from) {
             Selector slice = new Selector(Selector.SLICE);
             slice.from = from;
             if (!text.take(':')) {
@@ -910,43 +868,30 @@ public final class SelectedNodes {
             return slice;
         }
 
-        Condition readCondition(int depth) {
-            Condition either = new Condition(Condition.EITHER);
+        private Condition readCondition(int depth) {
+            return readJoined(Condition.EITHER, '|', depth);
+        }
+
+        /** One or more ands with || between, or one or more basics with && between. */
+        private Condition readJoined(int sort, char sign, int depth) {
+            Condition joined = new Condition(sort);
             for (int k = 0; k < Text.LIMIT; k++) {
-                Condition part = readAnd(depth);
+                Condition part = sort == Condition.EITHER ? readJoined(Condition.BOTH, '&', depth) : readBasic(depth);
                 if (part == null) {
                     return null;
                 }
-                either.add(part);
-                if (text.peek() != '|') {
-                    return either;
+                joined.parts.add(part);
+                if (text.peek() != sign) {
+                    return joined;
                 }
-                if (!text.takeAll("||")) {
+                if (!text.take(sign) || !text.take(sign)) {
                     return null;
                 }
             }
             return null;
         }
 
-        Condition readAnd(int depth) {
-            Condition both = new Condition(Condition.BOTH);
-            for (int k = 0; k < Text.LIMIT; k++) {
-                Condition part = readBasic(depth);
-                if (part == null) {
-                    return null;
-                }
-                both.add(part);
-                if (text.peek() != '&') {
-                    return both;
-                }
-                if (!text.takeAll("&&")) {
-                    return null;
-                }
-            }
-            return null;
-        }
-
-        Condition readBasic(int depth) {
+        private Condition readBasic(int depth) {
             if (text.peek() == '(') {
                 return readGroup(depth);
             }
@@ -963,10 +908,10 @@ public final class SelectedNodes {
             if (query.single && startsSign()) {
                 return readComparison(new Operand(Operand.SINGLE, null, query), depth);
             }
-            return testOf(query);
+            return Condition.ofTest(query);
         }
 
-        Condition readGroup(int depth) {
+        private Condition readGroup(int depth) {
             if (depth >= DEEPEST || !text.take('(')) {
                 return null;
             }
@@ -974,29 +919,23 @@ public final class SelectedNodes {
             return inner != null && text.take(')') ? inner : null;
         }
 
-        Condition readDenied(int depth) {
+        private Condition readDenied(int depth) {
             Condition inner;
             if (text.peek() == '(') {
                 inner = readGroup(depth);
             } else {
                 Query query = readTest(depth, false);
-                inner = query == null ? null : testOf(query);
+                inner = query == null ? null : Condition.ofTest(query);
             }
             if (inner == null) {
                 return null;
             }
             Condition denied = new Condition(Condition.DENIED);
-            denied.add(inner);
+            denied.parts.add(inner);
             return denied;
         }
 
-        Condition testOf(Query query) {
-            Condition test = new Condition(Condition.TEST);
-            test.test = query;
-            return test;
-        }
-
-        Condition readComparison(Operand left, int depth) {
+        private Condition readComparison(Operand left, int depth) {
             if (left == null) {
                 return null;
             }
@@ -1010,12 +949,12 @@ public final class SelectedNodes {
             return comparison.right == null ? null : comparison;
         }
 
-        boolean startsSign() {
+        private boolean startsSign() {
             char c = text.peek();
             return c == '=' || c == '!' || c == '<' || c == '>';
         }
 
-        int readSign() {
+        private int readSign() {
             switch (text.peek()) {
                 case '=':
                     return text.takeAll("==") ? Condition.EQUAL : Condition.NO_SIGN;
@@ -1032,7 +971,7 @@ public final class SelectedNodes {
             }
         }
 
-        Operand readOperand(int depth) {
+        private Operand readOperand(int depth) {
             int lengths = 0;
             while (lengths < Text.LIMIT && text.peek() == 'l') {
                 if (!text.takeAll("length(")) {
@@ -1053,7 +992,7 @@ public final class SelectedNodes {
             return operand;
         }
 
-        Operand readInnermost(int depth) {
+        private Operand readInnermost(int depth) {
             switch (text.peek()) {
                 case '$':
                 case '@':
@@ -1069,7 +1008,7 @@ public final class SelectedNodes {
             }
         }
 
-        Operand readCall(int sort, int depth) {
+        private Operand readCall(int sort, int depth) {
             Query query = readTest(depth, false);
             return query != null && text.take(')') ? new Operand(sort, null, query) : null;
         }
@@ -1093,7 +1032,7 @@ public final class SelectedNodes {
 
         /** False when there is no room for it. */
         boolean add(Node node) {
-            if (size < 0 || size >= LIMIT) {
+            if (size >= LIMIT) {
                 return false;
             }
             entries[size] = node;
@@ -1103,7 +1042,7 @@ public final class SelectedNodes {
 
         /** Null when there is none. */
         Node at(int i) {
-            return i >= 0 && i < size && i < LIMIT ? entries[i] : null;
+            return i >= 0 && i < size ? entries[i] : null;
         }
 
         void copy(Row other) {
@@ -1135,6 +1074,9 @@ public final class SelectedNodes {
                 olds[level] = new Row();
                 news[level] = new Row();
             }
+            whole = null;
+            tried = 0;
+            many = false;
         }
 
         /** The row that the query gives, good until the next query; null when it is too many. */
@@ -1147,7 +1089,7 @@ public final class SelectedNodes {
         }
 
         /** Null at a level that no query reaches; else a row, of no meaning when there are too many. */
-        Row pick(Query query, Node current, int level) {
+        private Row pick(Query query, Node current, int level) {
             if (query == null || level < 0 || level >= LEVELS) {
                 return null;
             }
@@ -1155,10 +1097,10 @@ public final class SelectedNodes {
             Row given = news[level];
             row.clear();
             row.add(query.fromWhole ? whole : current);
-            for (Segment segment = query.first; segment != null && !many; segment = segment.next) {
+            for (int k = 0; k < query.segments.size() && !many; k++) {
                 given.clear();
                 for (int i = 0; i < row.size && !many; i++) {
-                    follow(segment, row.at(i), given, level);
+                    follow(query.segments.get(k), row.at(i), given, level, 1);
                 }
                 Row old = row;
                 row = given;
@@ -1167,47 +1109,50 @@ public final class SelectedNodes {
             return row;
         }
 
-        void follow(Segment segment, Node top, Row given, int level) {
-            for (Node node = top; node != null && !many; node = segment.deep ? node.following(top) : null) {
-                for (Selector selector = segment.first; selector != null && !many; selector = selector.next) {
-                    apply(selector, node, given, level);
+        private void follow(Segment segment, Node node, Row given, int level, int depth) {
+            for (int k = 0; k < segment.selectors.size() && !many; k++) {
+                apply(segment.selectors.get(k), node, given, level);
+            }
+            if (segment.deep && depth < Node.DEEPEST) {
+                for (int k = 0; k < node.children.size() && !many; k++) {
+                    follow(segment, node.children.get(k), given, level, depth + 1);
                 }
             }
         }
 
-        void apply(Selector selector, Node node, Row given, int level) {
+        private void apply(Selector selector, Node node, Row given, int level) {
             switch (selector.sort) {
                 case Selector.ALL:
-                    for (Node child = node.first; child != null; child = child.next) {
-                        keep(child, given);
+                    for (int k = 0; k < node.children.size(); k++) {
+                        keep(node.children.get(k), given);
                     }
                     break;
                 case Selector.NAME:
                     keep(node.member(selector.name), given);
                     break;
                 case Selector.PLACE:
-                    keep(node.item(selector.from < 0 ? node.size + selector.from : selector.from), given);
+                    keep(node.item(selector.from < 0 ? node.children.size() + selector.from : selector.from), given);
                     break;
                 case Selector.SLICE:
                     slice(selector, node, given);
                     break;
                 default:
-                    filter(selector, node, given, level);
+                    filter(selector.condition, node, given, level);
                     break;
             }
         }
 
-        void keep(Node node, Row given) {
+        private void keep(Node node, Row given) {
             if (node != null && !given.add(node)) {
                 many = true;
             }
         }
 
-        void slice(Selector slice, Node node, Row given) {
+        private void slice(Selector slice, Node node, Row given) {
             if (node.kind != Node.ARRAY) {
                 return;
             }
-            int n = node.size;
+            int n = node.children.size();
             if (slice.step > 0) {
                 int from = bound(slice.from, 0, n, 0);
                 int to = bound(slice.to, n, n, 0);
@@ -1225,7 +1170,7 @@ public final class SelectedNodes {
         }
 
         /** A slice's end, made to lie in least .. least + n. */
-        int bound(int place, int absent, int n, int least) {
+        private int bound(int place, int absent, int n, int least) {
             int end = place == Text.NO_PLACE ? absent : place;
             if (end < 0) {
                 end = end + n;
@@ -1233,30 +1178,31 @@ public final class SelectedNodes {
             return Math.max(least, Math.min(least + n, end));
         }
 
-        void filter(Selector filter, Node node, Row given, int level) {
-            for (Node child = node.first; child != null && !many; child = child.next) {
+        private void filter(Condition condition, Node node, Row given, int level) {
+            for (int k = 0; k < node.children.size() && !many; k++) {
                 if (tried >= MOST_TRIED) {
                     many = true;
                     return;
                 }
                 tried++;
-                if (holds(filter.condition, child, level + 1)) {
+                Node child = node.children.get(k);
+                if (holds(condition, child, level + 1)) {
                     keep(child, given);
                 }
             }
         }
 
-        boolean holds(Condition condition, Node current, int level) {
+        private boolean holds(Condition condition, Node current, int level) {
             if (condition == null || many) {
                 return false;
             }
             switch (condition.sort) {
                 case Condition.EITHER:
-                    return endsAt(true, condition, current, level);
+                    return somePart(condition, true, current, level);
                 case Condition.BOTH:
-                    return !endsAt(false, condition, current, level);
+                    return !somePart(condition, false, current, level);
                 case Condition.DENIED:
-                    return !holds(condition.first, current, level);
+                    return somePart(condition, false, current, level);
                 case Condition.TEST:
                     Row row = pick(condition.test, current, level);
                     return row != null && row.size > 0;
@@ -1267,35 +1213,35 @@ public final class SelectedNodes {
             }
         }
 
-        /** Whether a part holds or not as is asked; the parts behind such a one are not looked at. */
-        boolean endsAt(boolean asked, Condition condition, Node current, int level) {
-            for (Condition part = condition.first; part != null && !many; part = part.next) {
-                if (holds(part, current, level) == asked) {
+        /** Whether some part holds, or does not, as is asked; the parts behind such a one are not looked at. */
+        private boolean somePart(Condition condition, boolean asked, Node current, int level) {
+            for (int k = 0; k < condition.parts.size() && !many; k++) {
+                if (holds(condition.parts.get(k), current, level) == asked) {
                     return true;
                 }
             }
             return false;
         }
 
-        boolean compare(Node left, int sign, Node right) {
+        private static boolean compare(Node left, int sign, Node right) {
             switch (sign) {
                 case Condition.EQUAL:
-                    return Node.same(left, right, 1);
+                    return Node.equal(left, right);
                 case Condition.UNEQUAL:
-                    return !Node.same(left, right, 1);
+                    return !Node.equal(left, right);
                 case Condition.LESS:
                     return Node.less(left, right);
                 case Condition.LESS_OR_EQUAL:
-                    return Node.less(left, right) || Node.same(left, right, 1);
+                    return Node.less(left, right) || Node.equal(left, right);
                 case Condition.MORE:
                     return Node.less(right, left);
                 default:
-                    return Node.less(right, left) || Node.same(right, left, 1);
+                    return Node.less(right, left) || Node.equal(right, left);
             }
         }
 
         /** The operand's value; null for nothing. */
-        Node valueOf(Operand operand, Node current, int level) {
+        private Node valueOf(Operand operand, Node current, int level) {
             if (operand == null) {
                 return null;
             }
@@ -1311,7 +1257,7 @@ public final class SelectedNodes {
             return value;
         }
 
-        Node innermost(Operand operand, Node current, int level) {
+        private Node innermost(Operand operand, Node current, int level) {
             if (operand.sort == Operand.LITERAL) {
                 return operand.literal;
             }
