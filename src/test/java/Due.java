@@ -5,6 +5,7 @@
 final class Due {
     private int wrong = 0;
     private String document = "";
+    private String sentence = "";
     SelectedNodes x = new SelectedNodes();
 
     /** The object is made anew, with this document in it. */
@@ -16,9 +17,14 @@ final class Due {
         }
     }
 
+    /** The sentence of the document that the checks up to the next one are about: failures are told with it. */
+    void sentence(String words) {
+        sentence = words;
+    }
+
     void fail(String what) {
         wrong++;
-        System.out.println(what);
+        System.out.println(sentence.isEmpty() ? what : what + " (" + sentence + ")");
     }
 
     void same(String what, Object got, Object want) {
@@ -92,6 +98,14 @@ final class Due {
         anew(document);
         same("select() of " + query, select(query), want);
         same("wipe() behind select() of " + query, x.wipe(), 0);
+    }
+
+    /** The text is a document of so many values. */
+    void document(String text, int values) {
+        x = new SelectedNodes();
+        same("read() of " + text, read(text), values);
+        same("nodes() behind read() of " + text, x.nodes(), 0);
+        same("wipe() behind read() of " + text, x.wipe(), 0);
     }
 
     /** The text, which is no document, has this fault. */

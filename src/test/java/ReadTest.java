@@ -15,38 +15,31 @@ public final class ReadTest {
         due.end();
     }
 
-    private static void count(String text, int want) {
-        due.x = new SelectedNodes();
-        due.same("read() of " + text, due.read(text), want);
-        due.same("nodes() behind it", due.x.nodes(), 0);
-        due.same("the text behind it", due.x.wipe(), 0);
-    }
-
     private static void counts() {
-        count("null", 1);
-        count("false", 1);
-        count("true", 1);
-        count("0", 1);
-        count("-0", 1);
-        count("-0.0", 1);
-        count("123456789.123", 1);
-        count("-999999999.999", 1);
-        count("\"\"", 1);
-        count("\" '\\\"\\\\\\/\\b\\f\\n\\r\\t\"", 1);
-        count("[]", 1);
-        count("{}", 1);
-        count("[1,[2,3],{\"a\":4}]", 7);
-        count("{\"a\":{\"b\":[]},\"b\":1,\"A\":2,\"\":3,\" \":4}", 7);
-        count("[" + "0,".repeat(58) + "0]", 60);
-        count("{\"a\":{\"a\":1},\"b\":{\"a\":2}}", 5);
+        due.document("null", 1);
+        due.document("false", 1);
+        due.document("true", 1);
+        due.document("0", 1);
+        due.document("-0", 1);
+        due.document("-0.0", 1);
+        due.document("123456789.123", 1);
+        due.document("-999999999.999", 1);
+        due.document("\"\"", 1);
+        due.document("\" '\\\"\\\\\\/\\b\\f\\n\\r\\t\"", 1);
+        due.document("[]", 1);
+        due.document("{}", 1);
+        due.document("[1,[2,3],{\"a\":4}]", 7);
+        due.document("{\"a\":{\"b\":[]},\"b\":1,\"A\":2,\"\":3,\" \":4}", 7);
+        due.document("[" + "0,".repeat(58) + "0]", 60);
+        due.document("{\"a\":{\"a\":1},\"b\":{\"a\":2}}", 5);
     }
 
     private static void spaces() {
-        count("  1  ", 1);
-        count(" [ ] ", 1);
-        count(" { } ", 1);
-        count("  [  1  ,  2  ]  ", 3);
-        count("  {  \"a\"  :  1  ,  \"b\"  :  [ ]  }  ", 3);
+        due.document("  1  ", 1);
+        due.document(" [ ] ", 1);
+        due.document(" { } ", 1);
+        due.document("  [  1  ,  2  ]  ", 3);
+        due.document("  {  \"a\"  :  1  ,  \"b\"  :  [ ]  }  ", 3);
         due.documentFault(" ", 1);
         due.documentFault("- 1", 1);
         due.documentFault("1 2", 2);
@@ -136,15 +129,15 @@ public final class ReadTest {
         due.documentFault("{\"\":1,\"\":2}", 7);
         due.documentFault("{\"/\":1,\"\\/\":2}", 10);
         due.documentFault("{\"\\n\":1,\"n\":2,\"\\n\":3}", 17);
-        count("{\"a\":1,\"aa\":2,\"A\":3,\"a \":4}", 5);
-        count("{\"\\n\":1,\"n\":2}", 3);
+        due.document("{\"a\":1,\"aa\":2,\"A\":3,\"a \":4}", 5);
+        due.document("{\"\\n\":1,\"n\":2}", 3);
     }
 
     private static void depth() {
-        count("[[[[[[]]]]]]", 6);
-        count("[[[[[{ }]]]]]", 6);
-        count("[[[[[1,\"a\",[ ],{ }]]]]]", 9);
-        count("{\"a\":{\"a\":{\"a\":{\"a\":{\"a\":{}}}}}}", 6);
+        due.document("[[[[[[]]]]]]", 6);
+        due.document("[[[[[{ }]]]]]", 6);
+        due.document("[[[[[1,\"a\",[ ],{ }]]]]]", 9);
+        due.document("{\"a\":{\"a\":{\"a\":{\"a\":{\"a\":{}}}}}}", 6);
         due.documentFault("[[[[[[[", 6);
         due.documentFault("[[[[[[ 1", 7);
         due.documentFault("[[[[[[\"", 6);
