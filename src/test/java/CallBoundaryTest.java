@@ -307,8 +307,8 @@ public final class CallBoundaryTest {
 
     private static void selectWithAFault() {
         due.sentence("-1 - p with a fault p .. what was picked staying.");
-        String[] faulty = {"", "x", "$[0", "$[0]]", "$[?@==1||", "$[" + "0,".repeat(59)};
-        int[] faults = {0, 0, 3, 4, 9, 120};
+        String[] faulty = {"", "x", "$[0", "$[0]]", "$[?@==1||", "$[" + "0,".repeat(59), "$[" + "0,".repeat(40) + "0]x"};
+        int[] faults = {0, 0, 3, 4, 9, 120, 84};
         for (int k = 0; k < faulty.length; k++) {
             prepare();
             due.same("select() of " + faulty[k], due.select(faulty[k]), -1 - faults[k]);
@@ -318,6 +318,8 @@ public final class CallBoundaryTest {
 
     private static void selectOfTooMany() {
         due.sentence("or MANY, what was picked staying.");
+        due.same("MANY", SelectedNodes.MANY, MANY);
+        due.same("NONE", SelectedNodes.NONE, -1);
         String[] queries = {"$[*,*,*,*,*,*,*,*,*,*,*,*,*,0,1]", "$[*,*,*,*,*,*,*,*,*,*,*,*,*,*].a",
             "$[?$[*,*,*,*,*,*,*,*,*,*,*,*,*,*]]", "$[0,?count($[*,*,*,*,*,*,*,*,*,*,*,*,*,*])==1]"};
         for (String query : queries) {

@@ -190,6 +190,12 @@ public final class ConditionBoundaryTest {
         due.paths("$[?@==$[4]]", "$[4]");
         due.paths("$[?@==$[5]]", "$[5]");
         due.paths("$[?@==$[8]]", "$[8]");
+        due.anew("[[[[[[]]]]],[[[[{}]]]],[[[[[]]]]],[[[[]]]]]");
+        due.paths("$[?@==$[0]]", "$[0] $[2]");
+        due.paths("$[?$==$]", "$[0] $[1] $[2] $[3]");
+        due.anew("[[[[[0]]]],[[[[1]]]],[[[[0]]]]]");
+        due.paths("$[?@==$[2]]", "$[0] $[2]");
+        due.paths("$[?$==$]", ALL);
     }
 
     private static void sameObjects() {
@@ -201,6 +207,9 @@ public final class ConditionBoundaryTest {
         due.paths("$[?@==$[4]]", "$[4]");
         due.paths("$[?@==$[5]]", "$[5]");
         due.paths("$[?@==$[6]]", "$[6]");
+        due.anew("[{\"a\":{\"b\":{\"c\":{\"d\":{}}}}},{\"a\":{\"b\":{\"c\":{\"d\":{}}}}},{\"a\":{\"b\":{\"c\":{\"e\":{}}}}}]");
+        due.paths("$[?@==$[0]]", "$[0] $[1]");
+        due.paths("$[?$==$]", ALL);
     }
 
     private static void differentKinds() {

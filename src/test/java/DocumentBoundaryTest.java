@@ -255,6 +255,9 @@ public final class DocumentBoundaryTest {
         due.document("\"" + "'".repeat(118) + "\"", 1);
         due.documentFault("\"\"\"", 2);
         due.documentFault("\"\\\"", 3);
+        due.documentFault("''", 0);
+        due.documentFault("['a']", 1);
+        due.documentFault("{'a':0}", 1);
     }
 
     private static void escapes() {
